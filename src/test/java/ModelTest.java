@@ -1,5 +1,6 @@
 import java.util.ArrayDeque;
 import java.util.ArrayList;
+import java.util.Arrays;
 import java.util.Deque;
 import java.util.HashMap;
 import java.util.LinkedHashSet;
@@ -65,7 +66,7 @@ public final class ModelTest {
         for (int i = 0; i < calls; i++) {
             int name = nextName();
             int[] a = arguments(name);
-            made.add(NAMES[name] + java.util.Arrays.toString(a));
+            made.add(NAMES[name] + Arrays.toString(a));
             int got = call(room, NAMES[name], a);
             int due = model.call(NAMES[name], a);
             if (got != due) {
@@ -103,7 +104,7 @@ public final class ModelTest {
         return name;
     }
 
-    /** Arguments that mostly fit; r stands for a register, others for the most that the number can be. */
+    /** Arguments that mostly fit, with an odd one now and then. */
     private int[] arguments(int name) {
         switch (NAMES[name]) {
             case "number": return new int[] {register(), any()};
@@ -198,7 +199,7 @@ public final class ModelTest {
         Model(int words, int entries) {
             allWords = words < 128 || words > 32768 ? 32768 : words;
             allEntries = entries < 16 || entries > 4096 ? 4096 : entries;
-            java.util.Arrays.fill(registers, NIL);
+            Arrays.fill(registers, NIL);
         }
 
         int call(String name, int[] a) {
@@ -366,7 +367,7 @@ public final class ModelTest {
             made++;
             contexts.put(made, context);
             long[] row = new long[room];
-            java.util.Arrays.fill(row, NIL);
+            Arrays.fill(row, NIL);
             fields.put(made, row);
         }
 
